@@ -1,0 +1,101 @@
+import java.lang.reflect.Constructor;
+import java.lang.reflect.Field;
+import java.lang.reflect.Method;
+import java.lang.reflect.Modifier;
+import java.util.Arrays;
+import java.util.Set;
+import java.util.TreeSet;
+
+/** The public face, and what LANGUAGE.md's rules 1, 2 and 5 say of the members. */
+public final class FaceTest {
+    private static final Check CHECK = new Check();
+    private static final String[] METHODS = {
+        "int type(long,int)", "int clear()", "int house()", "int part(int,int)", "int let(int)", "int undo()",
+        "int lodge(int)", "int now(int)", "int brings(int,int)", "int shortest(int)", "int round(int)",
+        "int standings()", "int apart(int,int)", "int tried(int,int)", "int forget()", "int lodges()",
+        "int trial(int)", "int called(int)", "int mark(int,int)", "int keep(int)", "int back(int)",
+        "int count(int)", "long trace()",
+    };
+
+    public static void main(String[] args) throws IllegalAccessException {
+        methods();
+        constants();
+        constructors();
+        insides();
+        CHECK.end();
+    }
+
+    private static String told(Method method) {
+        StringBuilder text = new StringBuilder(method.getReturnType() + " " + method.getName() + "(");
+        for (Class<?> type : method.getParameterTypes()) {
+            text.append(text.charAt(text.length() - 1) == '(' ? "" : ",").append(type);
+        }
+        return text.append(')').toString();
+    }
+
+    private static void methods() {
+        CHECK.holds("the class is public and final", WallMarbles.class.getModifiers() == (Modifier.PUBLIC | Modifier.FINAL));
+        Set<String> due = new TreeSet<>(Arrays.asList(METHODS));
+        Set<String> names = new TreeSet<>();
+        for (String method : METHODS) {
+            names.add(method.substring(method.indexOf(' ') + 1, method.indexOf('(')));
+        }
+        for (Method method : WallMarbles.class.getDeclaredMethods()) {
+            int modifiers = method.getModifiers();
+            if (Modifier.isPublic(modifiers)) {
+                CHECK.holds(told(method) + " is of the face", due.remove(told(method)) && modifiers == Modifier.PUBLIC);
+            } else {
+                CHECK.holds(told(method) + " is private", Modifier.isPrivate(modifiers));
+                CHECK.holds(told(method) + " has a name of its own", !names.contains(method.getName()));
+            }
+        }
+        CHECK.holds("all methods are there, but for " + due, due.isEmpty());
+    }
+
+    private static void constants() throws IllegalAccessException {
+        CHECK.due("BAD", WallMarbles.BAD, -1);
+        CHECK.due("STATE", WallMarbles.STATE, -2);
+        CHECK.due("FULL", WallMarbles.FULL, -3);
+        CHECK.due("NONE", WallMarbles.NONE, -9);
+        CHECK.due("NO", WallMarbles.NO, -1000000);
+        int open = 0;
+        for (Field field : WallMarbles.class.getDeclaredFields()) {
+            if (!Modifier.isPrivate(field.getModifiers())) {
+                open++;
+                CHECK.holds(field.getName() + " is a constant int", field.getType() == int.class
+                    && field.getModifiers() == (Modifier.PUBLIC | Modifier.STATIC | Modifier.FINAL));
+            }
+        }
+        CHECK.due("constants of the face", open, 5);
+    }
+
+    private static void constructors() {
+        Constructor<?>[] all = WallMarbles.class.getDeclaredConstructors();
+        CHECK.due("constructors", all.length, 1);
+        CHECK.holds("it is public, without parameters",
+            all[0].getParameterCount() == 0 && all[0].getModifiers() == Modifier.PUBLIC);
+    }
+
+    private static void insides() {
+        Class<?>[] inside = WallMarbles.class.getDeclaredClasses();
+        CHECK.holds("some twelve classes at most", inside.length + 1 <= 12);
+        fieldsOf(WallMarbles.class);
+        for (Class<?> one : inside) {
+            CHECK.holds(one + " is static, and not public", Modifier.isStatic(one.getModifiers())
+                && !Modifier.isPublic(one.getModifiers()) && !Modifier.isProtected(one.getModifiers()));
+            fieldsOf(one);
+        }
+    }
+
+    private static void fieldsOf(Class<?> one) {
+        int own = 0;
+        for (Field field : one.getDeclaredFields()) {
+            if (Modifier.isStatic(field.getModifiers())) {
+                CHECK.holds(field + " is final", Modifier.isFinal(field.getModifiers()));
+            } else {
+                own++;
+            }
+        }
+        CHECK.holds(one + " has some twenty fields at most", own <= 20);
+    }
+}
