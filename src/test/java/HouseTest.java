@@ -154,6 +154,11 @@ public final class HouseTest {
         isFault("landing;cu 0 2;", 8);
         isFault("landing;forl 0 0 1;", 8);
         isFault("landing;sieves 0 0;", 8);
+        isFault("landing;dup 0 2;", 8);
+        isFault("banding;", 0);
+        isFault("landing landin;", 8);
+        isFault("landing 100;", 8);
+        isFault("landing;cup cups 2;", 12);
         isFault("landing;cup 100 2;", 12);
         isFault("landing;cup 4294967296 2;", 12);
         isFault("landing;cup 00 2;", 12);

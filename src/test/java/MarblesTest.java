@@ -6,6 +6,7 @@ public final class MarblesTest {
         forks();
         sieves();
         cups();
+        nineParts();
         refusedMarbles();
         takenBack();
         onlyTwentyAreKnown();
@@ -63,6 +64,25 @@ public final class MarblesTest {
             CHECK.due("a cup's STAND", x.part(1, 4), stand);
         }
         CHECK.due("only the third is there", x.part(0, 5), 1);
+    }
+
+    private static void nineParts() {
+        lets("landing;sieve 0 0;sieve 1 1;sieve 2 2;sieve 3 3;sieve 4 4;sieve 5 5;sieve 6 6;sieve 7 7;", "01", 0, 0, 0);
+        WallMarbles x = Check.of("landing;fork 0 0 3;fork 1 1 3;fork 2 2 3;fork 3 3 3;fork 4 4 3;fork 5 5 3;"
+            + "fork 6 6 3;fork 7 7 3;");
+        for (int i = 1; i <= 7; i++) {
+            CHECK.due("through nine PARTS", x.let(i % 2), 0);
+            for (int k = 1; k < 9; k++) {
+                CHECK.due("the STAND of each", x.part(k, 4), i % 6);
+            }
+        }
+        CHECK.due("a round of all", x.round(0), 6);
+        CHECK.due("standings of all", x.standings(), 6);
+        CHECK.due("undo()", x.undo(), 6);
+        CHECK.due("the first STAND again", x.called(6), 64);
+        x.lodge(8);
+        CHECK.due("it stays at the last PART", x.let(0), WallMarbles.NONE);
+        CHECK.due("all CALLED", x.called(9), 512);
     }
 
     private static void refusedMarbles() {
