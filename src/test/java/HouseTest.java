@@ -156,6 +156,10 @@ public final class HouseTest {
         isFault("landing;sieves 0 0;", 8);
         isFault("landing;dup 0 2;", 8);
         isFault("banding;", 0);
+        isFault("landingz;", 0);
+        isFault("landinga;", 0);
+        isFault("landing;cup 0 29;", 14);
+        isFault("landing;cup 0 20;", 14);
         isFault("landing landin;", 8);
         isFault("landing 100;", 8);
         isFault("landing;cup cups 2;", 12);

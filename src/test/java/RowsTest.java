@@ -18,7 +18,7 @@ public final class RowsTest {
     }
 
     private static void rowsThatAreNone() {
-        int[] none = {-1, 3, 10, 20, 101, 13, 31, 123, 1111111111, 2111111111, 1000000000,
+        int[] none = {-1, 3, 10, 20, 101, 13, 31, 123, 311111111, 111131111, 911111111, 1111111111, 2111111111, 1000000000,
             Integer.MAX_VALUE, Integer.MIN_VALUE, -12};
         WallMarbles empty = new WallMarbles();
         WallMarbles x = Check.of(FORKED);
