@@ -4,14 +4,24 @@ import java.nio.charset.StandardCharsets;
 final class Check {
     private int right = 0;
     private int wrong = 0;
+    private String heading = "";
 
     void due(String call, long got, long want) {
         if (got == want) {
             right++;
         } else {
             wrong++;
-            System.out.println(call + " answered " + got + ", due is " + want);
+            System.out.println(heading + call + " answered " + got + ", due is " + want);
         }
+    }
+
+    /** What the next answers are looked at for; it is told with each that is wrong. */
+    void under(String words) {
+        heading = words.isEmpty() ? "" : words + ": ";
+    }
+
+    int looked() {
+        return right + wrong;
     }
 
     void holds(String what, boolean so) {
