@@ -1,10 +1,15 @@
+import java.io.IOException;
 import java.lang.reflect.Constructor;
 import java.lang.reflect.Field;
 import java.lang.reflect.Method;
 import java.lang.reflect.Modifier;
+import java.nio.file.Files;
+import java.nio.file.Path;
 import java.util.Arrays;
 import java.util.Set;
 import java.util.TreeSet;
+import java.util.regex.Matcher;
+import java.util.regex.Pattern;
 
 /** The public face, and what LANGUAGE.md's rules 1, 2 and 5 say of the members. */
 public final class FaceTest {
@@ -17,12 +22,41 @@ public final class FaceTest {
         "int count(int)", "long trace()",
     };
 
-    public static void main(String[] args) throws IllegalAccessException {
+    public static void main(String[] args) throws IllegalAccessException, IOException {
+        document(Path.of("../shared/DOC.md"));
         methods();
         constants();
         constructors();
         insides();
         CHECK.end();
+    }
+
+    // The list above was written by hand: it must be the document's own.
+    private static void document(Path file) throws IOException {
+        if (!Files.exists(file)) {
+            System.out.println(file + " is not here: that the face is the document's is not looked at");
+            return;
+        }
+        String text = Files.readString(file);
+        int from = text.indexOf("```java");
+        String face = text.substring(from, text.indexOf("\n```", from));
+        Set<String> due = new TreeSet<>();
+        Matcher method = Pattern.compile("public (int|long) (\\w+)\\((.*)\\);").matcher(face);
+        while (method.find()) {
+            String types = method.group(3).replaceAll(" \\w+(, )?", ",").replaceAll(",$", "");
+            due.add(method.group(1) + " " + method.group(2) + "(" + types + ")");
+        }
+        CHECK.holds("the document's methods are " + due, due.equals(new TreeSet<>(Arrays.asList(METHODS))));
+        CHECK.holds("the document's constants", face.contains("int BAD = -1, STATE = -2, FULL = -3, NONE = -9;")
+            && face.contains("int NO = -1000000;"));
+    }
+
+    private static Set<String> publicNames() {
+        Set<String> names = new TreeSet<>();
+        for (String method : METHODS) {
+            names.add(method.substring(method.indexOf(' ') + 1, method.indexOf('(')));
+        }
+        return names;
     }
 
     private static String told(Method method) {
@@ -36,10 +70,7 @@ public final class FaceTest {
     private static void methods() {
         CHECK.holds("the class is public and final", WallMarbles.class.getModifiers() == (Modifier.PUBLIC | Modifier.FINAL));
         Set<String> due = new TreeSet<>(Arrays.asList(METHODS));
-        Set<String> names = new TreeSet<>();
-        for (String method : METHODS) {
-            names.add(method.substring(method.indexOf(' ') + 1, method.indexOf('(')));
-        }
+        Set<String> names = publicNames();
         for (Method method : WallMarbles.class.getDeclaredMethods()) {
             int modifiers = method.getModifiers();
             if (Modifier.isPublic(modifiers)) {
@@ -84,6 +115,9 @@ public final class FaceTest {
             CHECK.holds(one + " is static, and not public", Modifier.isStatic(one.getModifiers())
                 && !Modifier.isPublic(one.getModifiers()) && !Modifier.isProtected(one.getModifiers()));
             fieldsOf(one);
+            for (Method method : one.getDeclaredMethods()) {
+                CHECK.holds(one + "." + told(method) + " has a name of its own", !publicNames().contains(method.getName()));
+            }
         }
     }
 

@@ -1,7 +1,11 @@
 import java.io.IOException;
 import java.nio.file.Files;
 import java.nio.file.Path;
+import java.util.LinkedHashMap;
 import java.util.List;
+import java.util.Map;
+import java.util.Set;
+import java.util.TreeSet;
 import java.util.regex.Matcher;
 import java.util.regex.Pattern;
 
@@ -19,7 +23,8 @@ public final class RulesTest {
         String code = source.replaceAll("(?s)/\\*.*?\\*/", "").replaceAll("//[^\n]*", "");
         words(code.replaceAll("\"[^\"\n]*\"", "\"\""));
         objects(code);
-        methods(code);
+        Map<String, String> bodies = methods(code);
+        depth(bodies);
         CHECK.end();
     }
 
@@ -57,19 +62,60 @@ public final class RulesTest {
         }
     }
 
-    private static void methods(String code) {
+    // What each method's lines say, by its name; methods of one name in several classes are taken together.
+    private static Map<String, String> methods(String code) {
+        Map<String, String> bodies = new LinkedHashMap<>();
         String[] lines = code.split("\n");
-        Pattern head = Pattern.compile("^( +)(?!.*\\bclass\\b).*\\((.*)\\) \\{$");
+        Pattern head = Pattern.compile("^( +)(?!.*\\bclass\\b).*\\b(\\w+)\\((.*)\\) \\{$");
         for (int i = 0; i < lines.length; i++) {
             Matcher m = head.matcher(lines[i]);
             if (m.find() && !lines[i].matches(" *(\\} else )?(if|for|while|switch)\\b.*")) {
+                StringBuilder body = new StringBuilder();
                 int last = i;
                 while (last < lines.length && !lines[last].equals(m.group(1) + "}")) {
                     last++;
+                    body.append(last < lines.length ? lines[last] : "").append('\n');
                 }
                 CHECK.holds("sixty lines at most: " + lines[i].trim(), last - i < 60);
-                CHECK.holds("seven parameters at most: " + lines[i].trim(), m.group(2).split(",").length <= 7);
+                CHECK.holds("seven parameters at most: " + lines[i].trim(), m.group(3).split(",").length <= 7);
+                bodies.merge(m.group(2), body.toString(), String::concat);
             }
         }
+        return bodies;
+    }
+
+    // Rules 8 and 11: three methods call themselves, none calls another in a ring; the rest goes eight deep at most.
+    private static void depth(Map<String, String> bodies) {
+        Map<String, Set<String>> calls = new LinkedHashMap<>();
+        Set<String> recursive = new TreeSet<>();
+        bodies.forEach((name, body) -> {
+            Set<String> called = new TreeSet<>();
+            Matcher call = Pattern.compile("\\b(\\w+)\\(").matcher(body);
+            while (call.find()) {
+                if (bodies.containsKey(call.group(1))) {
+                    called.add(call.group(1));
+                }
+            }
+            if (called.remove(name)) {
+                recursive.add(name);
+            }
+            calls.put(name, called);
+        });
+        CHECK.holds("these call themselves: " + recursive, recursive.equals(Set.of("rowOf", "rowsToPresent", "markBody")));
+        for (String name : calls.keySet()) {
+            int deep = deepest(calls, name, 0);
+            CHECK.holds(name + " goes eight deep at most: " + deep, deep <= 8);
+        }
+    }
+
+    // A ring of calls would go on without end: it is told as too deep.
+    private static int deepest(Map<String, Set<String>> calls, String name, int above) {
+        int deepest = above + 1;
+        for (String called : calls.get(name)) {
+            if (deepest <= calls.size()) {
+                deepest = Math.max(deepest, deepest(calls, called, above + 1));
+            }
+        }
+        return deepest;
     }
 }
